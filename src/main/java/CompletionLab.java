@@ -607,7 +607,7 @@ public final class CompletionLab {
         final int[] arity = new int[SIGNS];
         final int[] weight = new int[SIGNS];
         final Term[] side = new Term[2 * (AXIOMS + GOALS)];
-        final int[] surplus = new int[2 * VARIABLES];
+        private final int[] often = new int[2 * VARIABLES];
         int signs;
         int ratio = 4;
         int most = 20;
@@ -690,11 +690,17 @@ public final class CompletionLab {
         /** Whether the TERM of s at i is GREATER than that of t at j: a loop down the first TERMS that are unlike. */
         boolean greater(Term s, int i, Term t, int j) {
             for (int level = 0; level <= CODES; level++) {
-                int more = balance(s, i, t, j);
-                if (more != 0) {
-                    return more > 0;
+                int more = surplus(s, i, t, j);
+                if (more < 0 || lacks(s, i, t, j)) {
+                    return false;
+                }
+                if (more > 0) {
+                    return true;
                 }
                 int head = s.code[i];
+                if (head >= VARIABLE || t.code[j] >= VARIABLE) {
+                    return false;
+                }
                 if (head != t.code[j]) {
                     return turned ? head < t.code[j] : head > t.code[j];
                 }
@@ -715,33 +721,43 @@ public final class CompletionLab {
             return false;
         }
 
-        /** -1 where GREATER is out of the question, 1 where the WEIGHT alone tells it, 0 where signs must. */
-        private int balance(Term s, int i, Term t, int j) {
-            Arrays.fill(surplus, 0);
+        /** By how much the WEIGHT of the TERM of s is more. */
+        private int surplus(Term s, int i, Term t, int j) {
             int more = 0;
             for (int k = i; k < s.end[i]; k++) {
-                int c = s.code[k];
-                more += c < VARIABLE ? weight[c] : 1;
-                if (c >= VARIABLE) {
-                    surplus[c - VARIABLE]++;
+                more += s.code[k] < VARIABLE ? weight[s.code[k]] : 1;
+            }
+            for (int k = j; k < t.end[j]; k++) {
+                more -= t.code[k] < VARIABLE ? weight[t.code[k]] : 1;
+            }
+            return more;
+        }
+
+        /** Whether a VARIABLE is more often in the TERM of t; often is all 0 before and behind. */
+        private boolean lacks(Term s, int i, Term t, int j) {
+            for (int k = i; k < s.end[i]; k++) {
+                if (s.code[k] >= VARIABLE) {
+                    often[s.code[k] - VARIABLE]++;
+                }
+            }
+            boolean lacks = false;
+            for (int k = j; k < t.end[j]; k++) {
+                if (t.code[k] >= VARIABLE) {
+                    often[t.code[k] - VARIABLE]--;
+                    lacks = lacks || often[t.code[k] - VARIABLE] < 0;
+                }
+            }
+            for (int k = i; k < s.end[i]; k++) {
+                if (s.code[k] >= VARIABLE) {
+                    often[s.code[k] - VARIABLE] = 0;
                 }
             }
             for (int k = j; k < t.end[j]; k++) {
-                int c = t.code[k];
-                more -= c < VARIABLE ? weight[c] : 1;
-                if (c >= VARIABLE) {
-                    surplus[c - VARIABLE]--;
+                if (t.code[k] >= VARIABLE) {
+                    often[t.code[k] - VARIABLE] = 0;
                 }
             }
-            for (int v = 0; v < surplus.length; v++) {
-                if (surplus[v] < 0) {
-                    return -1;
-                }
-            }
-            if (more == 0 && (s.code[i] >= VARIABLE || t.code[j] >= VARIABLE)) {
-                return -1;
-            }
-            return more;
+            return lacks;
         }
     }
 
@@ -1101,6 +1117,7 @@ public final class CompletionLab {
     private static final class Shelf {
         final Equation[] equations = new Equation[EQUATIONS];
         final int[] active = new int[ACTIVES];
+        final int[] head = new int[2 * ACTIVES];
         int count;
         int actives;
         boolean full;
@@ -1139,6 +1156,16 @@ public final class CompletionLab {
             if (actives < ACTIVES) {
                 active[actives] = k;
                 actives++;
+                readHeads();
+            }
+        }
+
+        /** The first CODE of the from side of each ACTIVE one by each WAY: most are passed over by it. */
+        private void readHeads() {
+            for (int a = 0; a < actives; a++) {
+                Equation e = equations[active[a]];
+                head[2 * a] = (e.ways & 1) != 0 ? e.code[0] : NONE;
+                head[2 * a + 1] = (e.ways & 2) != 0 ? e.code[e.left] : NONE;
             }
         }
 
@@ -1153,6 +1180,7 @@ public final class CompletionLab {
                 }
             }
             actives = left;
+            readHeads();
         }
 
         int howMany(int state) {
@@ -1195,6 +1223,7 @@ public final class CompletionLab {
                 equations[k].why = keptWhy[k];
             }
             System.arraycopy(keptActive, 0, active, 0, actives);
+            readHeads();
         }
     }
 
@@ -1242,9 +1271,10 @@ public final class CompletionLab {
             this.shelf = shelf;
         }
 
-        /** Whether TERMS for VARIABLES make the pattern the CODES of t from p on. */
-        boolean fits(byte[] pattern, int from, int till, Term t, int p) {
-            for (int v = 0; v < VARIABLES; v++) {
+        /** Whether TERMS for VARIABLES make a row of an EQUATION's CODES those of t from p on. */
+        boolean fits(Equation e, int from, int till, Term t, int p) {
+            byte[] pattern = e.code;
+            for (int v = 0; v < e.variables; v++) {
                 start[v] = NONE;
             }
             int j = p;
@@ -1308,23 +1338,24 @@ public final class CompletionLab {
 
         /** At the first PLACE, by the first ACTIVE (of a number alone, or any but one), by the first WAY. */
         boolean reduceOnce(Term t, int only, int but) {
+            int[] head = shelf.head;
+            int many = 2 * shelf.actives;
             for (int p = 0; p < t.size; p++) {
-                if (t.code[p] >= VARIABLE) {
+                int c = t.code[p];
+                if (c >= VARIABLE) {
                     continue;
                 }
-                for (int n = 0; n < 2 * shelf.actives; n++) {
+                for (int n = 0; n < many; n++) {
+                    if (head[n] != c && head[n] < VARIABLE) {
+                        continue;
+                    }
                     int k = shelf.active[n >> 1];
                     int w = n & 1;
                     Equation e = shelf.equations[k];
-                    if (k == but || only >= 0 && k != only || (e.ways >> w & 1) == 0) {
+                    if (k == but || only >= 0 && k != only) {
                         continue;
                     }
-                    int from = w == 0 ? 0 : e.left;
-                    int head = e.code[from];
-                    if (head < VARIABLE && head != t.code[p]) {
-                        continue;
-                    }
-                    if (!fits(e.code, from, e.till(w), t, p) || !puts(e, 1 - w, t, p)) {
+                    if (!fits(e, e.from(w), e.till(w), t, p) || !puts(e, 1 - w, t, p)) {
                         continue;
                     }
                     if (e.state == FLAT && !language.greater(t, p, made, 0)) {
@@ -1923,7 +1954,7 @@ public final class CompletionLab {
             both.close(language.arity);
             for (int a = 0; a < shelf.actives; a++) {
                 Equation e = shelf.equations[shelf.active[a]];
-                if (reducer.fits(e.code, 0, e.all, both, 0)) {
+                if (reducer.fits(e, 0, e.all, both, 0)) {
                     return true;
                 }
             }
@@ -2055,7 +2086,7 @@ public final class CompletionLab {
             for (int p = overlaps.peakPlace + 1; p < peak.end[overlaps.peakPlace]; p++) {
                 for (int a = 0; a < shelf.actives; a++) {
                     Equation e = shelf.equations[shelf.active[a]];
-                    if (e.state == RULE && e.code[0] == peak.code[p] && reducer.fits(e.code, 0, e.left, peak, p)) {
+                    if (e.state == RULE && e.code[0] == peak.code[p] && reducer.fits(e, 0, e.left, peak, p)) {
                         return true;
                     }
                 }

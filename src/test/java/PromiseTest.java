@@ -492,10 +492,15 @@ public final class PromiseTest {
         due(19, "told(1, 0)", x.told(1, 0), -2);
         text(x, "");
         due(19, "all anew", x.told(0, 0), NONE);
-        // thirty times at most
-        x = lab("sign a 0 1;sign f 1 1;sign g 1 1;sign h 2 1;axiom g(f(x))=f(f(g(x)));goal x=y;");
+        // thirty times at most: six of g over five of f are thirty; that g(e) could be e comes too late
+        x = lab("sign e 0 1;sign f 1 1;sign g 1 1;axiom g(f(x))=f(g(x));axiom g(e)=e;goal g(g(g(g(g(g(f(f(f(f(f(e)))))))))))=e;");
         x.step(20);
-        due(18, "normal", normal(x, "g(f(f(f(f(f(f(f(x))))))))"), 9);
+        due(18, "normal", normal(x, "g(g(g(g(g(g(f(f(f(f(f(e)))))))))))"), 12);
+        due(19, "told(30, 4)", x.told(30, 4), 1);
+        due(19, "told(30, 5)", x.told(30, 5), 2);
+        due(19, "told(31, 0)", x.told(31, 0), -2);
+        due(14, "thirty STEPS away", x.goal(0, 1), 30);
+        due(18, "normal", normal(x, "g(g(g(g(g(f(f(f(f(f(e))))))))))"), 6);
     }
 
     private static void compares() {
@@ -599,14 +604,22 @@ public final class PromiseTest {
         x = lab("sign a 0 1;sign b 0 1;sign p 2 1;axiom p(x,y)=p(y,x);axiom p(a,b)=a;axiom p(b,a)=b;");
         due(23, "p(a,b) by the FLAT one: p(b,a) is GREATER", x.overlaps(1, 0), 0);
         due(23, "p(b,a) by the FLAT one", x.overlaps(2, 0), 2);
-        // more than 60 CODES
-        x = lab("sign m 2 1;axiom m(m(m(x,x),m(x,x)),m(x,x))=x;"
-                + "axiom m(m(m(m(m(y,y),y),y),y),y)=y;");
-        int far = -1;
-        for (int i = 0; i < x.overlaps(0, 1); i++) {
-            far = Math.max(far, x.overlap(0, 1, i, 3));
-        }
-        due(24, "no size is beyond 61", far <= 61 ? 1 : 0, 1);
+        // 60 CODES, and more
+        x = lab("sign a 0 1;sign g 2 1;sign q 3 1;axiom q(y,y,q(y,g(z,z),z))=a;axiom q(w,w,q(w,w,q(u,a,g(a,a))))=g(w,a);"
+                + "axiom q(g(y,y),g(y,g(z,z)),z)=a;axiom q(x,g(w,w),q(u,a,g(a,a)))=q(x,x,w);");
+        due(23, "overlaps(0, 1)", x.overlaps(0, 1), 1);
+        due(24, "the PLACE", x.overlap(0, 1, 0, 2), 0);
+        due(24, "PEAK of 60", x.overlap(0, 1, 0, 3), 60);
+        due(24, "g(w,a)", x.overlap(0, 1, 0, 4), 15);
+        due(24, "a", x.overlap(0, 1, 0, 5), 1);
+        due(24, "they don't MEET", x.overlap(0, 1, 0, 6), 0);
+        due(23, "overlaps(2, 3)", x.overlaps(2, 3), 2);
+        due(24, "by the other WAY", x.overlap(2, 3, 1, 1), 1);
+        due(24, "its PEAK", x.overlap(2, 3, 1, 3), 16);
+        due(24, "PEAK of 61", x.overlap(2, 3, 0, 3), 61);
+        due(24, "q(x,x,w)", x.overlap(2, 3, 0, 4), 61);
+        due(24, "a", x.overlap(2, 3, 0, 5), 1);
+        due(24, "one has 61", x.overlap(2, 3, 0, 6), 0);
     }
 
     private static void opens() {
@@ -621,13 +634,28 @@ public final class PromiseTest {
         due(25, "open(2)", x.open(2), 0);
         due(25, "open(3)", x.open(3), NONE);
         due(25, "open(-1)", x.open(-1), NONE);
-        // f(f(a)) by f(f(x)) at PLACE 1: a below, so it is CONNECTED
-        x = lab("sign a 0 1;sign b 0 2;sign f 1 1;axiom f(f(x))=x;axiom f(b)=b;axiom f(a)=a;");
-        x.step(20);
-        due(25, "CONNECTED ones are counted, too", x.open(2) <= x.open(1) ? 1 : 0, 1);
-        x = lab("sign a 0 1;sign b 0 1;sign m 2 1;most 8;axiom m(m(x,x),y)=y;");
+        // g(h(x),x) and g(y,h(a)) have the PEAK g(h(h(a)),h(a)), where h(h(a)) fits at PLACE 1
+        x = lab("sign a 0 1;sign b 0 1;sign h 1 1;sign g 2 1;ratio 1;axiom h(h(a))=b;axiom g(h(x),x)=a;axiom g(y,h(a))=b;");
+        x.step(2);
+        due(31, "CONNECTED", x.count(16), 0);
         x.step(1);
-        due(25, "TOO BIG ones are left out", x.open(1), x.overlaps(1, 1) - x.count(15));
+        due(31, "CONNECTED", x.count(16), 2);
+        due(25, "open(0)", x.open(0), 3);
+        due(25, "open(1): CONNECTED ones, too", x.open(1), 3);
+        due(25, "open(2)", x.open(2), 2);
+        x.step(1);
+        due(25, "open(0)", x.open(0), 0);
+        due(25, "open(2)", x.open(2), 2);
+        // its PEAK has 9 CODES
+        x = lab("sign m 2 1;most 8;axiom m(m(x,x),y)=y;");
+        x.step(1);
+        due(31, "TOO BIG", x.count(15), 1);
+        due(23, "it is an OVERLAP", x.overlaps(1, 1), 1);
+        due(25, "TOO BIG ones are left out", x.open(1), 0);
+        x = lab("sign m 2 1;most 9;axiom m(m(x,x),y)=y;");
+        x.step(1);
+        due(31, "not TOO BIG", x.count(15), 0);
+        due(25, "open(1)", x.open(1), 1);
     }
 
     private static void ahead() {
