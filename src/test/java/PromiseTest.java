@@ -191,6 +191,10 @@ public final class PromiseTest {
         faultIs("sign a b 1;", 1, 7);
         faultIs("sign a 1;", 1, 8);
         faultIs("sign most 1 1;", 1, 5);
+        faultIs("sign sign 1 1;", 1, 5);
+        faultIs("sign ratio 1 1;", 1, 5);
+        faultIs("sign axiom 1 1;", 1, 5);
+        faultIs("axiom x=ratio;", 1, 8);
         faultIs("sign a 4 1;", 2, 7);
         faultIs("sign a 0 0;", 2, 9);
         faultIs("sign a 0 10;", 2, 9);
@@ -264,6 +268,22 @@ public final class PromiseTest {
         due(5, "step(1)", x.step(1), -2);
         due(5, "step(0)", x.step(0), NONE);
         due(5, "not FINISHED", x.count(21), 0);
+        // FULL: 24 are ACTIVE; the one that was picked is GONE, as if TAKEN UP, and no more is made
+        x = lab("sign z 0 1;sign s 1 1;sign p 2 1;sign t 2 2;axiom p(z,x)=x;axiom p(s(x),y)=s(p(x,y));axiom t(z,x)=z;"
+                + "axiom t(s(x),y)=p(y,t(x,y));axiom p(x,y)=p(y,x);");
+        due(5, "step(20)", x.step(20), 20);
+        due(5, "step(9)", x.step(9), 9);
+        due(5, "24 are ACTIVE", x.count(7) + x.count(8), 24);
+        due(5, "not FULL yet", x.count(20), 0);
+        int made = x.count(5);
+        int next = x.next();
+        due(5, "step(20)", x.step(20), 1);
+        due(5, "FULL", x.count(20), 1);
+        due(5, "none is made", x.count(5), made);
+        due(5, "still 24", x.count(7) + x.count(8), 24);
+        due(5, "the picked one is GONE", equation(x, next, 0), 3);
+        due(5, "as if TAKEN UP", equation(x, next, 3), 0);
+        due(5, "step(1)", x.step(1), -2);
     }
 
     private static void equations() {
@@ -440,6 +460,12 @@ public final class PromiseTest {
         x.step(1);
         due(17, "that STEP", x.goal(0, 0), 1);
         due(17, "not in 40 STEPS", x.meetsIn(1), -2);
+        // this one MEETS behind 41 STEPS
+        x = lab("sign e 0 1;sign m 2 1;sign i 1 1;ratio 3;axiom m(e,x)=x;axiom m(i(x),x)=e;axiom m(m(x,y),z)=m(x,m(y,z));"
+                + "goal i(m(a,b))=m(i(b),i(a));");
+        due(17, "41 are too many", x.meetsIn(0), -2);
+        x.step(1);
+        due(17, "40 are not", x.meetsIn(0), 40);
     }
 
     private static void normals() {
@@ -501,6 +527,12 @@ public final class PromiseTest {
         due(19, "told(31, 0)", x.told(31, 0), -2);
         due(14, "thirty STEPS away", x.goal(0, 1), 30);
         due(18, "normal", normal(x, "g(g(g(g(g(f(f(f(f(f(e))))))))))"), 6);
+        // c becomes eight CODES: seven of them and four more make 60, and five more would make 61
+        x = lab("sign a 0 1;sign f 1 1;sign g 2 1;sign q 3 1;sign c 0 9;axiom c=f(g(a,g(a,g(a,a))));");
+        x.step(1);
+        due(18, "60 CODES", normal(x, "f(q(c,c,q(c,c,q(c,c,c))))"), 60);
+        due(18, "never more", normal(x, "f(f(q(c,c,q(c,c,q(c,c,c)))))"), 54);
+        due(19, "told(6, 53)", x.told(6, 53), 4);
     }
 
     private static void compares() {
@@ -620,6 +652,10 @@ public final class PromiseTest {
         due(24, "q(x,x,w)", x.overlap(2, 3, 0, 4), 61);
         due(24, "a", x.overlap(2, 3, 0, 5), 1);
         due(24, "one has 61", x.overlap(2, 3, 0, 6), 0);
+        x = lab("sign a 0 1;sign g 2 1;sign q 3 1;axiom q(g(y,y),g(y,g(z,z)),z)=a;axiom q(x,g(w,w),q(u,a,g(a,a)))=g(w,a);");
+        due(23, "a PEAK of 61 makes an OVERLAP, too", x.overlaps(0, 1), 1);
+        due(24, "PEAK of 61", x.overlap(0, 1, 0, 3), 61);
+        due(24, "g(w,a)", x.overlap(0, 1, 0, 4), 15);
     }
 
     private static void opens() {
@@ -646,6 +682,13 @@ public final class PromiseTest {
         x.step(1);
         due(25, "open(0)", x.open(0), 0);
         due(25, "open(2)", x.open(2), 2);
+        // six VARIABLES for f(a), and six around it are twelve; another six are too many
+        x = lab("sign a 0 1;sign f 1 9;sign g 2 1;sign q 3 1;ratio 1;axiom f(a)=g(q(x,y,z),q(u,v,w));"
+                + "axiom q(g(x,y),q(z,u,v),g(w,f(a)))=a;");
+        x.step(2);
+        due(6, "twelve VARIABLES", equation(x, 4, 9), 12);
+        due(31, "not TOO BIG", x.count(15), 0);
+        due(31, "they came to WAIT", x.count(19), 5);
         // its PEAK has 9 CODES
         x = lab("sign m 2 1;most 8;axiom m(m(x,x),y)=y;");
         x.step(1);
