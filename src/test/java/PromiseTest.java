@@ -153,6 +153,9 @@ public final class PromiseTest {
         feed(x, "sign a 0 1;sign b 0 1;");
         due(3, "text(12)", x.text(11), 1);
         due(3, "all of the TAPE is used up", x.count(23), 0);
+        feed(x, "sign a 0 12;");
+        due(3, "a number cut in two", x.text(10), NONE);
+        due(3, "its place", x.fault(1), 10);
         due(3, "text(0)", x.text(0), 0);
         due(3, "count(0)", x.count(0), 0);
         due(3, "eight of all, four goals", text(x, "sign a 0 1;sign b 0 1;sign c 0 1;sign d 1 1;sign e 2 1;"
@@ -503,6 +506,11 @@ public final class PromiseTest {
         due(18, "fault(1)", x.fault(1), 1);
         due(19, "the one without a FAULT stays", x.told(0, 0), 100);
         due(18, "normal(0)", x.normal(0), NONE);
+        feed(x, "zs");
+        due(18, "the first byte alone", x.normal(1), 1);
+        due(19, "it is z", x.told(0, 0), 0);
+        due(18, "all that is left", x.normal(19), NONE);
+        due(18, "no bracket", x.fault(1), 19);
         due(18, "two TERMS", normal(x, "z z"), NONE);
         due(18, "fault(1)", x.fault(1), 2);
         // a FLAT one is used where what comes is less, by either WAY
