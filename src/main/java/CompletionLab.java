@@ -11,6 +11,8 @@ public final class CompletionLab {
     private static final int SIGNS = 8;
     private static final int AXIOMS = 8;
     private static final int GOALS = 4;
+    private static final int ARITIES = 3;
+    private static final int LETTERS = 6;
     private static final int READ_CODES = 12;
     private static final int READ_VARIABLES = 6;
     private static final int TAPE = 900;
@@ -668,7 +670,7 @@ public final class CompletionLab {
 
         int letters(int k) {
             int letters = 0;
-            for (int rest = word[k]; rest > 0; rest /= Reader.BASE) {
+            for (int rest = word[k]; rest > 0 && letters < LETTERS; rest /= Reader.BASE) {
                 letters++;
             }
             return letters;
@@ -712,7 +714,7 @@ public final class CompletionLab {
                     return false;
                 }
                 int below = i + 1;
-                while (below < i + same && s.end[below] <= i + same) {
+                for (int n = 0; n < ARITIES && below < i + same && s.end[below] <= i + same; n++) {
                     below = s.end[below];
                 }
                 j += below - i;
@@ -770,7 +772,6 @@ public final class CompletionLab {
         private static final int WORD_AXIOM = (((1 * BASE + 24) * BASE + 9) * BASE + 15) * BASE + 13;
         private static final int WORD_GOAL = ((7 * BASE + 15) * BASE + 1) * BASE + 12;
 
-        private static final int LETTERS = 6;
         private static final int MUCH = 100000;
 
         private static final int WORD = 1;
@@ -938,7 +939,7 @@ public final class CompletionLab {
             int k = draft.signs;
             draft.word[k] = value;
             advance();
-            if (!isNumber(0, 3)) {
+            if (!isNumber(0, ARITIES)) {
                 return false;
             }
             draft.arity[k] = value;
@@ -1471,7 +1472,7 @@ public final class CompletionLab {
             if (s >= 0 && t >= 0) {
                 int i = s + 1;
                 int j = t + 1;
-                while (i < stop[s] && j < stop[t]) {
+                for (int n = 0; n < ARITIES && i < stop[s] && j < stop[t]; n++) {
                     push(i, j);
                     i = stop[i];
                     j = stop[j];
@@ -1535,7 +1536,7 @@ public final class CompletionLab {
                     deep++;
                 }
                 name = NONE;
-                while (deep > 0 && name < 0 && to.size <= CODES) {
+                for (int m = 0; m < LOOPS && deep > 0 && name < 0 && to.size <= CODES; m++) {
                     int i = stackAt[deep - 1];
                     if (i >= stackStop[deep - 1]) {
                         deep--;

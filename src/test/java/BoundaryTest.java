@@ -1798,6 +1798,170 @@ public final class BoundaryTest {
         due("what the TAPE has is a TERM still", x.normal(20), 3);
     }
 
+    // ---- the widest
+
+    private static void widest() {
+        String grows = "sign a 0 1;sign f 1 1;sign g 2 1;sign q 3 1;sign k 1 1;sign m 1 1;sign c 0 9;ratio 1;"
+                + "axiom c=f(g(a,g(a,g(a,a))));";
+        says("an EQUATION of 60 CODES on each side");
+        CompletionLab x = lab(grows + "axiom f(q(c,c,q(c,c,q(c,c,c))))=q(c,c,q(c,c,q(c,c,f(c))));", 2);
+        equationIs(x, 3, 1, 120, 2, -2, 16, 2, 1 + 14, 3, 2, 0);
+        due("the first SIGN of RIGHT has the greater number", x.code(3, 0, 0), 3);
+        due("code(3, 0, 59)", x.code(3, 0, 59), 0);
+        due("code(3, 0, 60)", x.code(3, 0, 60), -2);
+        due("code(3, 1, 0)", x.code(3, 1, 0), 1);
+        due("code(3, 1, 1)", x.code(3, 1, 1), 3);
+        due("code(3, 1, 59)", x.code(3, 1, 59), 0);
+        due("code(3, 1, 60)", x.code(3, 1, 60), -2);
+        due("line(3, 0, 59)", x.line(3, 0, 59), 0);
+        due("line(3, 7, 10)", x.line(3, 7, 10), 6);
+        due("line(3, 7, 11)", x.line(3, 7, 11), -2);
+        byIs(x, 3, 7, 2, 0, 2 - 1);
+        byIs(x, 3, 8, 1, 0, 0);
+        byIs(x, 3, 9, 2, 1, 2);
+        due("line(3, 15, 59)", x.line(3, 15, 59), 0);
+        due("line(3, 15, 60)", x.line(3, 15, 60), -2);
+        due("line(3, 16, 0)", x.line(3, 16, 0), NONE);
+        says("SUBSUMED by such ones, too");
+        x = lab(grows + "axiom k(x)=m(y);axiom k(q(c,c,q(c,c,q(c,c,c))))=m(q(c,c,q(c,c,q(c,c,c))));"
+                + "axiom m(q(c,c,q(c,c,q(c,c,c))))=k(q(c,c,q(c,c,q(c,c,c))));", 4);
+        due("equation(2, 3)", equation(x, 2, 3), 2);
+        due("equation(3, 3)", equation(x, 3, 3), 2);
+        says("REDUCES: to a TERM of 60 CODES at PLACE 0");
+        x = lab("sign a 0 1;sign f 1 1;sign g 2 1;sign q 3 1;sign v 1 1;sign u 1 2;sign c 0 9;ratio 1;axiom c=f(g(a,g(a,g(a,a))));"
+                + "axiom u(q(x,y,f(z)))=v(q(x,y,f(z)));", 2);
+        due("normal", normal(x, "u(q(q(c,c,c),q(c,c,c),c))"), 60);
+        due("told(7, 0)", x.told(7, 0), 5);
+        due("told(8, 0)", x.told(8, 0), 4);
+        due("told(8, 59)", x.told(8, 59), 0);
+        says("VARIABLES of one: 12 at most");
+        x = lab("sign a 0 1;sign f 1 9;sign g 2 1;sign q 3 1;most 30;ratio 1;axiom f(a)=g(q(x,y,z),q(u,v,w));axiom q(f(a),f(a),a)=a;", 7);
+        due("equation(25, 0)", equation(x, 25, 0), 1);
+        due("equation(25, 9)", equation(x, 25, 9), 12);
+        due("the twelfth", x.code(25, 0, 18), 111);
+        due("normal: it doesn't fit", normal(x, "q(g(a,a),a,a)"), 6);
+        due("step(20)", x.step(20), 20);
+        says("REDUCES a TERM at a PLACE: where its from side is a VARIABLE, any that is GREATER than its to side");
+        x = lab("sign a 0 1;sign b 0 1;sign f 1 1;axiom x=a;", 1);
+        equationIs(x, 1, 2, 2, 2, -2, 2, 1, 1, 1, 1, 1);
+        due("f(b)", normal(x, "f(b)"), 1);
+        toldIs(x, 1, 1, 0, 0, 0);
+        due("told(2, 0)", x.told(2, 0), -2);
+        due("b", normal(x, "b"), 1);
+        toldIs(x, 1, 1, 0, 0, 0);
+        due("f(f(x)): x isn't, but what it is in", normal(x, "f(f(x))"), 1);
+        due("x", normal(x, "x"), 1);
+        due("told(1, 0)", x.told(1, 0), -2);
+        due("a", normal(x, "a"), 1);
+        due("told(1, 0)", x.told(1, 0), -2);
+    }
+
+    private static void sixties() {
+        String begin = "sign a 0 1;sign g 2 1;sign q 3 1;sign h 1 9;";
+        String left = "axiom q(y,y,q(y,g(z,z),z))=";
+        String ground = "axiom q(w,w,q(w,w,q(a,a,g(a,a))))=";
+        says("OVERLAPS: neither to side may be GREATER: asked, if PEAK has 60 CODES");
+        CompletionLab x = lab(begin + left + "a;" + ground + round("h", 7, "v") + ";" + ground + "v;");
+        due("y's to side of 8 CODES is GREATER", x.overlaps(0, 1), 0);
+        due("a VARIABLE alone isn't; the other WAY it is put at PLACES 0, 3, 5", x.overlaps(0, 2), 1 + 3);
+        overlapIs(x, 0, 2, 0, 0, 0, 0, 60, 1, 1);
+        says("OVERLAPS: asked, if y's side has 60 CODES");
+        String apart = "axiom q(w,t,q(w,w,q(a,a,g(a,a))))=";
+        x = lab(begin + left + "a;" + apart + round("h", 6, "q(w,w,g(w,w))") + ";" + apart + round("h", 7, "q(w,w,w)") + ";");
+        due("GREATER so at PLACE 0, not at PLACE 3", x.overlaps(0, 1), 1);
+        overlapIs(x, 0, 1, 0, 0, 0, 3);
+        due("of 47 CODES", x.overlaps(0, 2), 1);
+        overlapIs(x, 0, 2, 0, 0, 0, 3);
+        says("OVERLAPS: asked, if x's side has 60 CODES");
+        x = lab(begin + left + round("h", 6, "q(y,y,g(y,y))") + ";" + ground + "a;");
+        due("GREATER so", x.overlaps(0, 1), 0);
+        says("OVERLAPS: not asked, if y's side has more than 60 CODES");
+        x = lab("sign a 0 1;sign g 2 1;sign q 3 1;sign h 1 9;axiom q(y,y,q(y,g(z,z),z))=a;"
+                + "axiom q(w,t,q(w,w,q(a,a,g(a,a))))=h(q(w,w,q(w,w,w)));");
+        due("y's side has 68 at PLACE 0", x.overlaps(0, 1), 2);
+        overlapIs(x, 0, 1, 0, 0, 0, 0, 60, 61, 1, 0);
+        overlapIs(x, 0, 1, 1, 0, 0, 3);
+        says("WAYS: 1 alone, if its RIGHT is GREATER: of more than 60 CODES, too");
+        x = lab("sign a 0 1;sign g 2 1;sign q 3 1;sign h 1 9;axiom q(g(y,y),g(y,g(z,z)),z)=a;"
+                + "axiom q(x,g(w,w),q(u,a,g(a,a)))=h(h(h(q(x,g(w,w),u))));axiom q(x,g(w,w),q(u,a,g(a,a)))=h(h(h(q(x,x,u))));");
+        due("RIGHT is GREATER", x.overlaps(0, 1), 0);
+        due("neither is", x.overlaps(0, 2), 1);
+    }
+
+    private static void backwards() {
+        says("PROOF: forth (LEFT to RIGHT) or back: COLLAPSED, COMPOSED by the WAY from RIGHT to LEFT");
+        CompletionLab x = lab("sign a 0 1;sign b 0 1;sign k 1 1;sign f 1 1;sign g 2 1;sign m 1 1;sign c 0 9;ratio 1;"
+                + "axiom k(g(f(a),f(b)))=a;axiom m(x)=g(f(a),f(b));axiom c=g(f(a),f(b));axiom g(a,f(x))=g(x,f(b));", 4);
+        due("FLAT", equation(x, 8, 0), 2);
+        due("COLLAPSED", equation(x, 9, 2), 3);
+        lineIs(x, 9, 0, 2, 4, 0, 3, 3, 0);
+        lineIs(x, 9, 1, 2, 4, 3, 0, 3, 1);
+        lineIs(x, 9, 2, 0);
+        byIs(x, 9, 1, 8, 1, 1);
+        byIs(x, 9, 2, 4, 1, 0);
+        due("COLLAPSED", equation(x, 10, 2), 3);
+        lineIs(x, 10, 0, 5, 100);
+        lineIs(x, 10, 1, 4, 3, 0, 3, 1);
+        lineIs(x, 10, 2, 4, 0, 3, 3, 0);
+        byIs(x, 10, 1, 5, 1, 0);
+        byIs(x, 10, 2, 8, 0, 0);
+        due("COMPOSED", equation(x, 11, 2), 4);
+        byIs(x, 11, 1, 7, 1, 0);
+        byIs(x, 11, 2, 8, 0, 0);
+        says("PROOF of a pair: to PEAK, to the other side, by the WAYS of y, of x");
+        x = lab("sign a 0 1;sign b 0 1;sign k 1 1;sign f 1 1;sign g 2 1;ratio 1;axiom g(a,f(x))=g(x,f(b));axiom f(x)=k(y);", 2);
+        sidesAre(x, 4, codes(4, 0, 2, 100), codes(4, 101, 3, 1));
+        lineIs(x, 4, 1, 4, 0, 3, 101);
+        byIs(x, 4, 1, 3, 0, 2);
+        byIs(x, 4, 2, 2, 1, 0);
+        sidesAre(x, 5, codes(4, 100, 2, 101), codes(4, 0, 3, 100));
+        lineIs(x, 5, 1, 4, 100, 3, 1);
+        byIs(x, 5, 1, 3, 0, 2);
+        byIs(x, 5, 2, 2, 0, 0);
+        says("PROOF of what is TAKEN UP: back to that side, through the picked one, to the other NORMAL FORM");
+        x = lab("sign a 0 1;sign b 0 1;sign k 1 1;sign f 1 1;sign g 2 1;sign c 0 9;ratio 1;axiom g(a,f(x))=g(x,f(b));"
+                + "axiom c=g(f(f(a)),f(b));axiom g(f(f(a)),f(b))=a;axiom k(g(f(x),y))=a;", 4);
+        byIs(x, 5, 1, 1, 1, 0);
+        byIs(x, 5, 2, 4, 0, 0);
+        lineIs(x, 5, 1, 4, 3, 3, 0, 3, 1);
+        lineIs(x, 5, 2, 4, 0, 3, 3, 3, 0);
+        byIs(x, 6, 1, 4, 1, 0);
+        byIs(x, 6, 2, 2, 1, 0);
+        lineIs(x, 6, 1, 4, 3, 3, 0, 3, 1);
+        lineIs(x, 6, 2, 0);
+        byIs(x, 9, 1, 4, 1, 1);
+        byIs(x, 9, 2, 8, 1, 0);
+        lineIs(x, 9, 1, 2, 4, 3, 100, 3, 1);
+    }
+
+    private static void eights() {
+        says("TWICE: as an axiom that WAITS, number 0");
+        CompletionLab x = lab("sign g 1 1;sign f 1 1;axiom f(g(x))=g(f(x));axiom f(f(x))=g(x);", 1);
+        due("the smaller one is TAKEN UP", equation(x, 1, 3), 0);
+        counts(x, 18, 1);
+        counts(x, 19, 0);
+        x = lab("sign g 1 1;sign f 1 1;axiom g(f(y))=f(g(y));axiom f(f(x))=g(x);", 1);
+        counts(x, 18, 1);
+        counts(x, 19, 0);
+        says("turnedRank, bestWeight: of eight axioms, none of which can be turned");
+        StringBuilder all = new StringBuilder("sign a 0 1;sign b 0 1;");
+        for (int k = 0; k < 8; k++) {
+            all.append("axiom x=y;");
+        }
+        x = lab(all.toString());
+        due("turnedRank()", x.turnedRank(), 8);
+        due("bestWeight()", x.bestWeight(), 0);
+        says("goal, at most 4: each of them");
+        x = lab("sign a 0 1;sign f 1 1;goal a=f(a);goal x=f(f(x));goal f(f(f(x)))=y;goal f(x)=f(x);");
+        int[][] sizes = {{1, 2}, {1, 3}, {4, 1}, {2, 2}};
+        for (int g = 0; g < 4; g++) {
+            due("goal(" + g + ", 3)", x.goal(g, 3), sizes[g][0]);
+            due("goal(" + g + ", 4)", x.goal(g, 4), sizes[g][1]);
+            due("goal(" + g + ", 0)", x.goal(g, 0), g == 3 ? 1 : 0);
+            due("goalCode(" + g + ", 1, last)", x.goalCode(g, 1, sizes[g][1] - 1), g == 0 ? 0 : g == 2 ? 101 : 100);
+        }
+    }
+
     public static void main(String[] args) {
         tapes();
         texts();
@@ -1833,6 +1997,10 @@ public final class BoundaryTest {
         ifs();
         others();
         nothingChanges();
+        widest();
+        sixties();
+        backwards();
+        eights();
         System.out.println("BoundaryTest: " + passed + " as due, " + wrong + " not");
         if (wrong > 0) {
             System.exit(1);

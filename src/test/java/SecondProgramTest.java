@@ -1576,7 +1576,13 @@ public final class SecondProgramTest {
             case "equation": b.ask(call, k, near(d, 10)); break;
             case "code": b.ask(call, k, near(d, 2), near(d, 10)); break;
             case "line": b.ask(call, k, near(d, lines), near(d, 10)); break;
-            case "by": b.ask(call, k, near(d, lines), near(d, 3)); break;
+            case "by":
+                b.ask(call, k, near(d, lines), near(d, 3));
+                for (int n = 0; n < 3; n++) {
+                    b.ask(call, k, lines - 1, n);
+                    b.ask(call, k, 1, n);
+                }
+                break;
             case "uses": case "overlaps": b.ask(call, k, l); break;
             case "users": b.ask(call, k, near(d, 4)); break;
             case "inState": b.ask(call, near(d, 4), near(d, 10)); break;
