@@ -1140,7 +1140,12 @@ public final class BoundaryTest {
         due("six VARIABLES", equation(x, 4, 9), 6);
         x.step(1);
         due("twelve are not", x.count(15), 0);
-        due("VARIABLES of one (12 at most)", equation(x, x.count(5) - 2, 9) + equation(x, x.count(5) - 1, 9) > 0 ? 1 : 0, 1);
+        says("TOO BIG: a thirteenth VARIABLE that is a side alone");
+        x = lab(six.replace("#", "a") + "axiom q(g(x,y),g(z,w),u)=v;", 16);
+        counts(x, 15, 0);
+        due("RIGHT is a VARIABLE that LEFT hasn't", equation(x, x.next(), 9), 9);
+        due("step(1)", x.step(1), 1);
+        due("three of these have twelve but for that one", x.count(15), 35);
     }
 
     private static void sortedPairs() {
@@ -1834,6 +1839,14 @@ public final class BoundaryTest {
         due("told(7, 0)", x.told(7, 0), 5);
         due("told(8, 0)", x.told(8, 0), 4);
         due("told(8, 59)", x.told(8, 59), 0);
+        says("REDUCES: never, if it would be more than 60 at PLACE 0");
+        x = lab("sign a 0 1;sign f 1 1;sign g 2 1;sign q 3 1;sign h 1 9;sign c 0 9;ratio 1;axiom c=f(g(a,g(a,g(a,a))));"
+                + "axiom h(q(x,y,f(z)))=g(g(a,a),q(x,y,f(z)));", 2);
+        due("normal", normal(x, "h(q(q(c,c,c),q(c,c,c),c))"), 60);
+        due("told(7, 0)", x.told(7, 0), 4);
+        due("told(8, 0)", x.told(8, 0), -2);
+        due("of c's one less", normal(x, "h(q(q(c,c,c),q(c,c,a),c))"), 56);
+        due("told(7, 0)", x.told(7, 0), 2);
         says("VARIABLES of one: 12 at most");
         x = lab("sign a 0 1;sign f 1 9;sign g 2 1;sign q 3 1;most 30;ratio 1;axiom f(a)=g(q(x,y,z),q(u,v,w));axiom q(f(a),f(a),a)=a;", 7);
         due("equation(25, 0)", equation(x, 25, 0), 1);

@@ -1494,6 +1494,48 @@ public final class SecondProgramTest {
         return b.toString();
     }
 
+    private static final List<String> TOKENS = List.of("sign ", "ratio ", "most ", "axiom ", "goal ", "a", "b", "f(", "g(",
+            "q(", "x", "y", "z", "u", "v", "w", "t", "(", ")", ",", "=", ";", "0 ", "1 ", "9 ", "10 ", "3 ", "4294967297 ", "abcdefg",
+            "\n", "#", "))", "),", "x,", "x)");
+
+    /** LINES as they should be, with a TOKEN at times that can't stand there. */
+    private static String soup(Dice d) {
+        StringBuilder b = new StringBuilder("sign a 0 1;sign f 1 1;sign g 2 1;sign q 3 1;");
+        if (d.one(3)) {
+            b.append("sign b 0 9;sign h 1 1;sign i 0 2;sign j 1 3;");
+        }
+        for (int n = d.below(14); n > 0 && b.length() < 800; n--) {
+            switch (d.below(8)) {
+                case 0: b.append(d.one(2) ? "ratio " : "most ").append(d.below(35)).append(';'); break;
+                case 1: b.append("sign ").append("abcfgqk".charAt(d.below(7))).append(' ').append(d.below(5)).append(' ')
+                        .append(d.below(11)).append(';'); break;
+                case 2: b.append(d.of(TOKENS)); break;
+                default: b.append(d.one(3) ? "goal " : "axiom ").append(wild(d, 4)).append('=').append(wild(d, 3)).append(';');
+            }
+        }
+        if (d.one(3)) {
+            int at = d.below(b.length());
+            b.insert(at, d.of(TOKENS));
+        }
+        return b.toString();
+    }
+
+    private static String wild(Dice d, int deep) {
+        int k = d.below(deep == 0 ? 8 : 14);
+        if (k < 7) {
+            return "" + "xyzuvwt".charAt(k);
+        }
+        if (k == 7) {
+            return "a";
+        }
+        int below = d.one(40) ? d.below(4) : 1 + k % 3;
+        StringBuilder b = new StringBuilder().append("fgq".charAt(k % 3));
+        for (int i = 0; i < below; i++) {
+            b.append(i == 0 ? '(' : ',').append(wild(d, deep - 1));
+        }
+        return b.append(below > 0 ? ")" : "").toString();
+    }
+
     private static final class Both {
         final long run;
         final CompletionLab one = new CompletionLab();
@@ -1671,6 +1713,9 @@ public final class SecondProgramTest {
             String t = d.one(2) ? anyText(d) : madeText(d);
             for (int n = d.below(3); n > 0; n--) {
                 text(d, b, marred(d, t));
+            }
+            for (int n = d.below(3); n > 0; n--) {
+                text(d, b, soup(d));
             }
             text(d, b, t);
             int calls = b.calls + (small ? 60 : 250);
