@@ -665,8 +665,10 @@ public final class BoundaryTest {
         active = x.count(7) + x.count(8);
         gone = x.count(9);
         int collapsed = x.count(13);
+        int pairs = pairs(x);
         due("step(1)", x.step(1), 1);
         counts(x, 20, 1);
+        due("what goes on ends at that: pairs", pairs(x), pairs);
         counts(x, 5, 201);
         due("the last one is the one TAKEN UP", equation(x, 200, 2), 2);
         due("it is ACTIVE", equation(x, 200, 0), 1);
@@ -685,7 +687,9 @@ public final class BoundaryTest {
         int collapsed = x.count(13);
         List<Integer> rules = actives(x);
         int picked = x.next();
+        int pairs = pairs(x);
         due("step(3)", x.step(3), 1);
+        due("what goes on ends at that: pairs", pairs(x), pairs);
         counts(x, 20, 1);
         counts(x, 5, 201);
         due("the last is the one TAKEN UP", equation(x, 200, 2), 2);
@@ -704,7 +708,9 @@ public final class BoundaryTest {
         due("ACTIVE", active, 23);
         composed = x.count(14);
         rules = actives(x);
+        pairs = pairs(x);
         due("step(1)", x.step(1), 1);
+        due("what goes on ends at that: pairs", pairs(x), pairs);
         counts(x, 20, 1);
         holds("EQUATIONS are fewer", x.count(5) < 201);
         due("ACTIVE", x.count(7) + x.count(8), 24);
@@ -724,6 +730,10 @@ public final class BoundaryTest {
         }
         all.sort(null);
         return all;
+    }
+
+    private static int pairs(CompletionLab x) {
+        return x.count(15) + x.count(16) + x.count(17) + x.count(18) + x.count(19);
     }
 
     /** What holds of each that is FULL. */
